@@ -429,9 +429,6 @@ public final class GraphRunner {
             p = newP;
             q = newQ;
             argumentCount = ARGUMENT_COUNTS[newOp];
-            ordered = false;
-            folded = false;
-            known = false;
         }
 
         private void takeArguments(int a, int b, int c) {

@@ -11,6 +11,9 @@ final class OpsTest {
         rows();
         slides();
         tooLarge();
+        largestTables();
+        longAndNarrow();
+        workedOutAgain();
         Expect.end();
     }
 
@@ -153,6 +156,15 @@ final class OpsTest {
         x.set(5, 0, 0, 0);
         x.run(8);
         Expect.holds("choice of b", x, 8, 0, table(r(5, 6)));
+
+        GraphRunner lying = new GraphRunner();
+        Expect.fillType(lying, 0, 1, table(r(1, 2, 3, 4)));
+        Expect.fillType(lying, 1, 1, table(r(9)));
+        Expect.fillType(lying, 2, 1, table(r(1, 0, 0, 1)));
+        lying.node(9, 0, 1, 2, 3, 0, 0);
+        lying.prepare();
+        lying.run(3);
+        Expect.holds("where of one row", lying, 3, 1, table(r(1, 9, 9, 4)));
     }
 
     private static void gathered() {
@@ -169,6 +181,7 @@ final class OpsTest {
         gives(11, 0, 0, 1, table(r(-5), r(-4)), null, 1, table(r(-4)));
         gives(12, 0, 0, 0, table(r(1, 5, 5), r(-1, -2, -3), r(0, 1, 2)), null, 1, table(r(1), r(0), r(2)));
         gives(12, 0, 0, 1, table(r(-5, -4, -4)), null, 1, table(r(1)));
+        gives(12, 0, 0, 0, table(r(0, 1), r(0, 1), r(1, 0), r(0, 1)), null, 1, table(r(1), r(1), r(0), r(1)));
     }
 
     private static void rows() {
@@ -242,5 +255,110 @@ final class OpsTest {
         between.prepare();
         Expect.answers("large on the way is fine", 4, () -> between.run(5));
         Expect.answers("what is given counts", 0, () -> between.get(5, 0, 0));
+    }
+
+    private static void largestTables() {
+        double[][] a = table(r(1, 2, 3, 4), r(5, 6, 7, 8), r(9, 10, 11, 12), r(13, 14, 15, 16));
+        double[][] unit = table(r(1, 0, 0, 0), r(0, 1, 0, 0), r(0, 0, 1, 0), r(0, 0, 0, 1));
+        double[][] twice = table(r(2, 4, 6, 8), r(10, 12, 14, 16), r(18, 20, 22, 24), r(26, 28, 30, 32));
+        double[][] zero = table(r(0, 0, 0, 0), r(0, 0, 0, 0), r(0, 0, 0, 0), r(0, 0, 0, 0));
+        double[][] one = table(r(1, 1, 1, 1), r(1, 1, 1, 1), r(1, 1, 1, 1), r(1, 1, 1, 1));
+        double[][] turned = table(r(1, 5, 9, 13), r(2, 6, 10, 14), r(3, 7, 11, 15), r(4, 8, 12, 16));
+        for (int type = 0; type <= 1; type++) {
+            gives(0, 0, 0, type, a, a, type, twice);
+            gives(1, 0, 0, type, a, a, type, zero);
+            gives(2, 0, 0, type, a, table(r(2)), type, twice);
+            gives(3, 0, 0, type, a, a, type, one);
+            gives(8, 0, 0, type, a, a, 1, zero);
+            gives(8, 0, 0, type, a, twice, 1, one);
+            gives(6, 0, 0, type, a, null, type, turned);
+            gives(7, 1, 0, type, a, null, 1, a);
+            gives(10, 0, 0, type, a, null, type, table(r(28, 32, 36, 40)));
+            gives(10, 1, 0, type, a, null, type, table(r(10), r(26), r(42), r(58)));
+            gives(11, 0, 0, type, a, null, type, table(r(13, 14, 15, 16)));
+            gives(11, 1, 0, type, a, null, type, table(r(4), r(8), r(12), r(16)));
+            gives(12, 0, 0, type, a, null, 1, table(r(3), r(3), r(3), r(3)));
+            gives(14, 0, 3, type, a, null, type, a);
+            gives(14, 2, 3, type, a, null, type, table(r(9, 10, 11, 12), r(13, 14, 15, 16)));
+            gives(15, 0, 0, type, a, table(r(0, -3, 2, -1)), type, a);
+            choiceOfLargest(type, a, twice);
+        }
+        gives(4, 0, 0, 0, a, unit, 0, a);
+        gives(5, 0, 0, 0, a, null, 0, a);
+        gives(18, 0, 2, 0, unit, null, 0, unit);
+        gives(16, 1, 0, 0, a, table(r(2)), 0, twice);
+        gives(16, 2, 2, 0, a, table(r(2)), 0,
+                table(r(0, 2, 6, 0), r(0, 10, 14, 0), r(0, 18, 22, 0), r(0, 26, 30, 0)));
+        gives(16, 1, 0, 0, a, table(r(1, 0, 0, 1)), 0, table(r(5), r(13), r(21), r(29)));
+    }
+
+    private static void choiceOfLargest(int type, double[][] a, double[][] b) {
+        GraphRunner x = new GraphRunner();
+        Expect.fillType(x, 0, type, a);
+        Expect.fillType(x, 1, type, b);
+        Expect.fillType(x, 2, 1, table(r(1, 1, 1, 1), r(1, 1, 1, 1), r(1, 1, 1, 1), r(1, 1, 1, 0)));
+        Expect.fillType(x, 3, 1, table(r(1)));
+        x.node(9, 0, 1, 2, 4, 0, 0);
+        x.node(17, 0, 1, 3, 5, 0, 0);
+        x.prepare();
+        x.run(4);
+        x.run(5);
+        Expect.holds("where", x, 4, type, table(a[0], a[1], a[2], r(13, 14, 15, 32)));
+        Expect.holds("choice", x, 5, type, a);
+    }
+
+    private static void longAndNarrow() {
+        double[][] lying = table(r(-1, -2, -3, -4));
+        double[][] standing = table(r(-1), r(-2), r(-3), r(-4));
+        for (int type = 0; type <= 1; type++) {
+            gives(0, 0, 0, type, lying, lying, type, table(r(-2, -4, -6, -8)));
+            gives(0, 0, 0, type, standing, standing, type, table(r(-2), r(-4), r(-6), r(-8)));
+            gives(3, 0, 0, type, lying, lying, type, table(r(1, 1, 1, 1)));
+            gives(3, 0, 0, type, standing, standing, type, table(r(1), r(1), r(1), r(1)));
+            gives(6, 0, 0, type, lying, null, type, standing);
+            gives(6, 0, 0, type, standing, null, type, lying);
+            gives(7, 1, 0, type, lying, null, 1, lying);
+            gives(7, 1, 0, type, standing, null, 1, standing);
+            gives(10, 0, 0, type, lying, null, type, lying);
+            gives(10, 1, 0, type, lying, null, type, table(r(-10)));
+            gives(10, 0, 0, type, standing, null, type, table(r(-10)));
+            gives(10, 1, 0, type, standing, null, type, standing);
+            gives(11, 0, 0, type, lying, null, type, lying);
+            gives(11, 1, 0, type, lying, null, type, table(r(-1)));
+            gives(11, 0, 0, type, standing, null, type, table(r(-1)));
+            gives(11, 1, 0, type, standing, null, type, standing);
+            gives(12, 0, 0, type, standing, null, 1, table(r(0), r(0), r(0), r(0)));
+            gives(13, 0, 0, type, table(r(-1)), table(r(-2), r(-3), r(-4)), type, standing);
+            gives(13, 1, 0, type, table(r(-1)), table(r(-2, -3, -4)), type, lying);
+            gives(14, 0, 3, type, standing, null, type, standing);
+            gives(14, 0, 0, type, lying, null, type, lying);
+            gives(15, 0, 0, type, standing, table(r(0, 1, 2, 3)), type, standing);
+            gives(15, 0, 0, type, lying, table(r(0)), type, lying);
+        }
+        gives(4, 0, 0, 0, lying, standing, 0, table(r(30)));
+        gives(4, 0, 0, 0, standing, table(r(2)), 0, table(r(-2), r(-4), r(-6), r(-8)));
+        gives(4, 0, 0, 0, table(r(2)), lying, 0, table(r(-2, -4, -6, -8)));
+        gives(5, 0, 0, 0, table(r(0.01), r(Double.MIN_VALUE)), null, 0, table(r(0.01), r(Double.MIN_VALUE)));
+        gives(16, 1, 0, 0, standing, table(r(2)), 0, table(r(-2), r(-4), r(-6), r(-8)));
+        GraphRunner last = worked(2, 0, 0, 0, table(r(0), r(0), r(0), r(1000)), table(r(1000)));
+        last.node(2, 9, 1, -1, 10, 0, 0);
+        last.node(2, 10, 1, -1, 11, 0, 0);
+        last.prepare();
+        Expect.fails("too large in the last row", Expect.ARITHMETIC, () -> last.run(11));
+    }
+
+    private static void workedOutAgain() {
+        for (int p = 0; p <= 1; p++) {
+            for (int op = 10; op <= 11; op++) {
+                GraphRunner x = worked(op, p, 0, 0, table(r(9, 9), r(9, 9)), null);
+                x.run(9);
+                for (int k = 0; k < 4; k++) {
+                    x.set(0, k / 2, k % 2, -2);
+                }
+                x.run(9);
+                double due = op == 10 ? -4 : -2;
+                Expect.holds("op " + op + " again", x, 9, 0, p == 0 ? table(r(due, due)) : table(r(due), r(due)));
+            }
+        }
     }
 }

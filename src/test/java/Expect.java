@@ -11,6 +11,7 @@ final class Expect {
 
     private static int looked = 0;
     private static int wrong = 0;
+    private static String sentence = "";
 
     interface Call {
         double answer();
@@ -21,6 +22,19 @@ final class Expect {
     }
 
     private Expect() {
+    }
+
+    /** One sentence of the document, in its own words, with the test that is its own. */
+    static void sentence(String words, Act test) {
+        int before = looked;
+        sentence = "\"" + words + "\" ";
+        try {
+            test.act();
+        } catch (RuntimeException e) {
+            look("ended early", false, e.toString(), "nothing thrown");
+        }
+        look("has a test", looked > before, "nothing looked at", "something");
+        sentence = "";
     }
 
     static void answers(String what, double due, Call call) {
@@ -55,7 +69,7 @@ final class Expect {
         looked++;
         if (!right) {
             wrong++;
-            System.out.println(what + ": got " + got + ", due is " + due);
+            System.out.println(sentence + what + ": got " + got + ", due is " + due);
         }
     }
 

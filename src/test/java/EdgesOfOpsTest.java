@@ -120,6 +120,11 @@ final class EdgesOfOpsTest {
         Tables.gives(3, 0, 0, ints(r(3, -3, -3, 3)), ints(r(7, -7, 7, -7)), ints(r(2, 2, -2, -2)));
         Tables.gives(3, 0, 0, ints(r(0, 0, 0, 0)), ints(r(1, -1, 1, -1)), ints(r(2, 2, -2, -2)));
         Tables.gives(3, 0, 0, ints(r(0, 1, -1, 1)), ints(r(999, 1000, -1000, -1000)), ints(r(1000, 1000, 1000, -1000)));
+        Tables.gives(3, 0, 0, ints(r(7, -7), r(-7, 7), r(1, 0)),
+                ints(r(7, -7), r(7, -7), r(1, 0)), ints(r(1), r(-1), r(1)));
+        Tables.gives(3, 0, 0, Tables.filled(I, 4, 4, -3), Tables.filled(I, 4, 4, 7), Tables.filled(I, 4, 4, -2));
+        Tables.gives(3, 0, 0, Tables.filled(I, 1, 4, -3), Tables.filled(I, 1, 4, -7), Tables.filled(I, 1, 4, 2));
+        Tables.gives(3, 0, 0, Tables.filled(I, 4, 1, 3), Tables.filled(I, 4, 1, -7), Tables.filled(I, 4, 1, -2));
         Tables.gives(3, 0, 0, floats(r(3.5, -3.5)), floats(r(7, -7)), floats(r(2)));
     }
 
@@ -146,6 +151,9 @@ final class EdgesOfOpsTest {
         Tables.gives(4, 0, 0, floats(r(sum)), floats(r(0.1, 0.2, 0.3, -0.6)), floats(r(2), r(2), r(2), r(2)));
         Tables.gives(4, 0, 0, floats(r(2, 1, 0), r(4, 3, 0), r(6, 5, 0), r(0, 7, 0)),
                 floats(r(1, 2), r(3, 4), r(5, 6), r(7, 0)), floats(r(0, 1, 0), r(1, 0, 0)));
+        Tables.gives(4, 0, 0, Tables.filled(F, 4, 4, 24), Tables.filled(F, 4, 4, 2), Tables.filled(F, 4, 4, 3));
+        Tables.gives(4, 0, 0, floats(r(5, 6, 7, 8)), floats(r(1)), floats(r(5, 6, 7, 8)));
+        Tables.gives(4, 0, 0, floats(r(5), r(6), r(7), r(8)), floats(r(5), r(6), r(7), r(8)), floats(r(1)));
     }
 
     private static void positive() {
@@ -244,6 +252,14 @@ final class EdgesOfOpsTest {
         Tables.gives(9, 0, 0, floats(r(1, 2), r(10, 10), r(1, 2)), floats(r(1, 2)), floats(r(10)),
                 ints(r(2), r(0), r(-2)));
         Tables.gives(9, 0, 0, floats(r(-0.0)), floats(r(-0.0)), floats(r(0.0)), ints(r(1)));
+        for (int rows = 1; rows <= 4; rows++) {
+            for (int columns = 1; columns <= 4; columns++) {
+                Tables.gives(9, 0, 0, Tables.filled(F, rows, columns, 5), floats(r(1)),
+                        Tables.filled(F, rows, columns, 5), ints(r(0)));
+                Tables.gives(9, 0, 0, Tables.filled(I, rows, columns, 1), ints(r(1)), ints(r(5)),
+                        Tables.filled(I, rows, columns, -1));
+            }
+        }
     }
 
     private static void overWhich() {
@@ -267,6 +283,20 @@ final class EdgesOfOpsTest {
     }
 
     private static void sumsBegin() {
+        for (int type = F; type <= I; type++) {
+            for (int p = 0; p <= 1; p++) {
+                GraphRunner x = Tables.graph(false, 10, p, 0, Tables.filled(type, 3, 3, 5));
+                x.prepare();
+                x.run(9);
+                x.set(0, 1, 1, 6);
+                Expect.answers("worked out again", 1, () -> x.run(9));
+                double[][] due = p == 0 ? Expect.row(15, 16, 15)
+                        : Expect.rows(Expect.of(15), Expect.of(16), Expect.of(15));
+                Expect.holds("from 0 again", x, 9, type, due);
+            }
+        }
+        Tables.gives(10, 0, 0, Tables.filled(I, 1, 4, 8), Tables.filled(I, 4, 4, 2));
+        Tables.gives(10, 1, 0, Tables.filled(I, 4, 1, 8), Tables.filled(I, 4, 4, 2));
         Tables.gives(10, 0, 0, floats(r(0.0)), floats(r(-0.0)));
         Tables.gives(10, 1, 0, floats(r(0.0)), floats(r(-0.0, -0.0, -0.0, -0.0)));
         Tables.gives(10, 0, 0, floats(r(7, -7)), floats(r(7, -7)));
@@ -276,6 +306,14 @@ final class EdgesOfOpsTest {
     }
 
     private static void greatest() {
+        for (int p = 0; p <= 1; p++) {
+            GraphRunner x = Tables.graph(false, 11, p, 0, floats(r(9)));
+            x.prepare();
+            x.run(9);
+            x.set(0, 0, 0, -9);
+            x.run(9);
+            Expect.answers("worked out again, with the first one again", -9, () -> x.get(9, 0, 0));
+        }
         Tables.gives(11, 1, 0, floats(r(-1)), floats(r(-2, -1, -3, -4)));
         Tables.gives(11, 0, 0, ints(r(-1)), ints(r(-4), r(-3), r(-2), r(-1)));
         Tables.gives(11, 1, 0, floats(r(-0.0), r(0.0)), floats(r(-0.0, 0.0), r(0.0, -0.0)));
@@ -297,6 +335,8 @@ final class EdgesOfOpsTest {
                 floats(r(1, 0, 0, 0), r(0, 1, 0, 0), r(0, 0, 1, 0), r(0, 0, 0, 1)));
         Tables.gives(12, 0, 0, ints(r(1), r(1), r(2)), ints(r(-9, 3, 3, 3), r(-9, 3, 2, 3), r(-9, -8, -7, -7)));
         Tables.gives(12, 0, 0, ints(r(0), r(0)), floats(r(-0.0, 0.0), r(0.0, -0.0)));
+        Tables.gives(12, 0, 0, ints(r(1), r(1), r(1), r(1)), ints(r(1, 2), r(-2, -1), r(0, 1), r(-1, 0)));
+        Tables.gives(12, 0, 0, ints(r(3)), floats(r(0.1, 0.2, 0.3, 0.4)));
     }
 
     private static void joinTypes() {
@@ -357,6 +397,8 @@ final class EdgesOfOpsTest {
         Tables.gives(15, 0, 0, floats(r(3, 4), r(1, 2), r(3, 4), r(3, 4)), floats(r(1, 2), r(3, 4)),
                 ints(r(1, 0, 1, 1)));
         Tables.gives(15, 0, 0, ints(r(7)), ints(r(7)), ints(r(0)));
+        Tables.gives(15, 0, 0, ints(r(5, 6, 7, 8)), ints(r(5, 6, 7, 8)), ints(r(0)));
+        Tables.gives(15, 0, 0, Tables.filled(F, 4, 4, 2.5), Tables.filled(F, 1, 4, 2.5), ints(r(0, -1, 0, -1)));
     }
 
     private static Tables.Table numbered(int rows) {
@@ -448,12 +490,33 @@ final class EdgesOfOpsTest {
         Tables.gives(16, 2, 2, floats(r(0, 2, 4, 0), r(0, 6, 8, 0)), a, floats(r(0, 1)));
         Tables.gives(16, 2, 2, floats(r(0, 1, 3, 0), r(0, 5, 7, 0)), a, floats(r(1)));
         Tables.gives(16, 1, 1, floats(r(12, 123, 234, 340), r(56, 567, 678, 780)), a, floats(r(100, 10, 1)));
+        Tables.gives(16, 1, 0, Tables.filled(F, 4, 4, 6), Tables.filled(F, 4, 4, 2), floats(r(3)));
+        Tables.gives(16, 1, 0, Tables.filled(F, 4, 1, 8), Tables.filled(F, 4, 4, 2), floats(r(1, 1, 1, 1)));
+        Tables.gives(16, 2, 2, floats(r(0, 2, 0), r(0, 4, 0), r(0, 6, 0), r(0, 8, 0)),
+                floats(r(1), r(2), r(3), r(4)), floats(r(2)));
         Tables.gives(16, 1, 0, floats(r(0.0)), floats(r(-0.0)), floats(r(1)));
         Tables.gives(16, 1, 0, floats(r(0.0)), floats(r(-0.0, -0.0)), floats(r(1, 1)));
         double sum = 0.0 + 0.1 * 2 + 0.2 * 2 + 0.3 * 2 + -0.6 * 2;
         double reversed = -0.6 * 2 + 0.3 * 2 + 0.2 * 2 + 0.1 * 2;
         Expect.look("the order matters", sum != reversed, "the same", "another sum");
         Tables.gives(16, 1, 0, floats(r(sum)), floats(r(0.1, 0.2, 0.3, -0.6)), floats(r(2, 2, 2, 2)));
+        slideNarrower();
+    }
+
+    /** Slot 2 held four columns before it holds two: those behind them must not count. */
+    private static void slideNarrower() {
+        GraphRunner x = new GraphRunner();
+        Tables.feed(x, 0, false, floats(r(1, 2, 3, 4)));
+        Tables.feed(x, 1, false, floats(r(10, 1)));
+        x.node(5, 0, -1, -1, 2, 0, 0);
+        x.prepare();
+        x.run(2);
+        x.undo();
+        x.node(5, 1, -1, -1, 2, 0, 0);
+        x.node(16, 0, 2, -1, 3, 1, 0);
+        x.prepare();
+        Expect.answers("narrower than before", 2, () -> x.run(3));
+        Expect.holds("narrower than before", x, 3, F, Expect.row(12, 23, 34));
     }
 
     private static void slideColumns() {

@@ -574,6 +574,11 @@ final class EdgesOfPromisesTest {
         counts("they stay though the nodes go", x, 0, 0, 0, 0, 4, 3);
         Expect.fails("not prepared", Expect.STATE, () -> x.run(0));
         counts("a run when not prepared", x, 0, 0, 0, 0, 4, 3);
+        x.node(6, 0, -1, -1, 2, 0, 0);
+        x.prepare();
+        counts("prepared anew", x, 1, 1, 0, 0, 4, 3);
+        x.run(2);
+        counts("counted on", x, 1, 1, 0, 1, 5, 3);
     }
 
     private static void countOrder() {
@@ -593,6 +598,16 @@ final class EdgesOfPromisesTest {
                 Expect.answers(nodes + " nodes, place " + place, due, () -> x.count(asked));
             }
         }
+        GraphRunner fewer = one(false);
+        fewer.node(5, 2, -1, -1, 1, 0, 0);
+        fewer.node(5, 0, -1, -1, 2, 0, 0);
+        fewer.prepare();
+        fewer.undo();
+        Expect.answers("one went, not prepared", -1, () -> fewer.count(10));
+        fewer.table(2, 0, 1, 1, false);
+        fewer.prepare();
+        Expect.answers("one went, the other is first", 0, () -> fewer.count(10));
+        Expect.answers("one went, none behind", -1, () -> fewer.count(11));
         GraphRunner x = one(false);
         for (int what : new int[] {Integer.MIN_VALUE, -10, -1, 6, 7, 8, 9, 24, 25, Integer.MAX_VALUE}) {
             Expect.answers("count(" + what + ")", -1, () -> x.count(what));

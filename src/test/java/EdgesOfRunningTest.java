@@ -168,6 +168,8 @@ final class EdgesOfRunningTest {
     private static void untilAnInputIsSet() {
         GraphRunner x = throwing();
         x.table(6, 0, 1, 1, false);
+        x.table(7, 0, 1, 1, true);
+        x.node(5, 7, -1, -1, 8, 0, 0);
         x.prepare();
         x.run(4);
         x.run(5);
@@ -184,6 +186,8 @@ final class EdgesOfRunningTest {
         Expect.fails("slot 4", Expect.MISSING, () -> x.get(4, 0, 0));
         Expect.fails("slot 5", Expect.MISSING, () -> x.get(5, 0, 0));
         Expect.answers("prepared still", 1, () -> x.count(1));
+        Expect.answers("folded still", 1, () -> x.count(2));
+        Expect.answers("folded still", 0, () -> x.get(8, 0, 0));
         x.set(0, 0, 0, 9);
         Expect.answers("worked out anew", 1, () -> x.run(4));
         Expect.answers("from the new number", 9, () -> x.get(4, 0, 0));

@@ -404,11 +404,18 @@ final class EdgesOfTermsTest {
     }
 
     private static void oneCellTooLarge() {
-        for (int cell = 0; cell < 16; cell++) {
+        oneCellTooLarge(4, 4);
+        oneCellTooLarge(4, 1);
+        oneCellTooLarge(1, 4);
+        oneCellTooLarge(3, 2);
+    }
+
+    private static void oneCellTooLarge(int rows, int columns) {
+        for (int cell = 0; cell < rows * columns; cell++) {
             GraphRunner x = new GraphRunner();
-            x.table(0, 0, 4, 4, false);
+            x.table(0, 0, rows, columns, false);
             x.table(1, 0, 1, 1, false);
-            x.set(0, cell / 4, cell % 4, cell % 2 == 0 ? 1000 : -1000);
+            x.set(0, cell / columns, cell % columns, cell % 2 == 0 ? 1000 : -1000);
             x.set(1, 0, 0, 1000);
             x.node(2, 0, 1, -1, 2, 0, 0);
             x.node(2, 2, 1, -1, 3, 0, 0);

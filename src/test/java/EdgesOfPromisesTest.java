@@ -27,7 +27,8 @@ final class EdgesOfPromisesTest {
     private static void nodeAndUndo() {
         Expect.sentence("A new NODE; out is a free SLOT", EdgesOfPromisesTest::nodeOfAFreeSlot);
         Expect.sentence("as many as the OP has, from the first on, are SLOTS (0 .. 19, free ones too), those behind "
-                + "them -1", EdgesOfPromisesTest::nodeArguments);
+                + "them -1 (OPS 0 .. 4, 8, 13, 15 and 16 have two, 9 and 17 three, the others one).",
+                EdgesOfPromisesTest::nodeArguments);
         Expect.sentence("14 are there: no room.", EdgesOfPromisesTest::nodeNoRoom);
         Expect.sentence("It's not PREPARED then. Answers its number.", EdgesOfPromisesTest::nodeUnprepares);
         Expect.sentence("The latest NODE goes, its OUTCOME's SLOT is free. It's not PREPARED then.",

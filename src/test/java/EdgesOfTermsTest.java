@@ -18,8 +18,8 @@ final class EdgesOfTermsTest {
         Expect.sentence("below -1000000000.0", () -> tooLarge(-1));
         Expect.sentence("in what a NODE gives is TOO LARGE", EdgesOfTermsTest::whatANodeGives);
         Expect.sentence("TOO LARGE: ArithmeticException.", EdgesOfTermsTest::oneCellTooLarge);
-        Expect.sentence("two SHAPES fit if their R are the same or one of them is 1, and likewise C",
-                EdgesOfTermsTest::fitting);
+        Expect.sentence("two SHAPES fit if their R are the same or one of them is 1, and likewise C; the outcome has "
+                + "the greater ones", EdgesOfTermsTest::fitting);
         Expect.sentence("a TABLE with 1 is taken again and again", EdgesOfTermsTest::againAndAgain);
         Expect.end();
     }
